@@ -213,6 +213,12 @@ public final class PromisesTest {
         due.is("5: the same bits of 6", x.number(8), LEAST);
         due.is("5: the same bits of 6, 104", x.number(104), LEAST);
         due.is("5: size", x.size(), 1);
+        x = one(6, 0, 0, 32);
+        x.address(4, 0, 0);
+        due.is("5: 4, when 6 alone has the bits", x.number(32), LEAST);
+        due.is("4: 4, when 6 alone has the bits", x.remove(32), 0);
+        due.is("3: 4, when 6 alone has the bits", x.put(32, 1), 1);
+        due.is("10: both are there", x.size(), 2);
     }
 
     private static void promise6Longest() {
