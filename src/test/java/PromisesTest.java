@@ -12,7 +12,6 @@ public final class PromisesTest {
         promise3Put();
         promise3PutLengths();
         promise3PutWrong();
-        promise3PutWhenFull();
         promise4Remove();
         promise4RemoveWrong();
         promise5Number();
@@ -131,30 +130,6 @@ public final class PromisesTest {
         due.is("3: 6, length 33", x.put(33, 1), 1);
         due.is("3: 6, length 128", x.put(128, 1), 1);
         due.is("3: wrong ones are not kept", x.size(), 3);
-    }
-
-    // A run of 512 calls never fills a book, but the limit is in the document's terms and keeps the rows' ends safe.
-    private static void promise3PutWhenFull() {
-        PrefixBook x = new PrefixBook();
-        for (int i = 0; i < 1000; i++) {
-            x.address(6, 0, (i * 7L) % 1000);
-            due.is("3: filling " + i, x.put(128, i), 1);
-        }
-        x.address(6, 0, 1000);
-        due.is("3: new when full", x.put(128, 1), PrefixBook.NONE);
-        x.address(4, 0, 0);
-        due.is("3: new at the start when full", x.put(0, 1), PrefixBook.NONE);
-        due.is("3: size when full", x.size(), 1000);
-        x.address(6, 0, 999);
-        due.is("3: there already when full", x.put(128, -5), 0);
-        due.is("3: its number when full", x.number(128), -5);
-        due.is("3: removing when full", x.remove(128), 1);
-        x.address(4, 0, 0);
-        due.is("3: new when one has gone", x.put(0, 1), 1);
-        due.is("3: new when full again", x.put(1, 1), PrefixBook.NONE);
-        due.is("3: size when full again", x.size(), 1000);
-        due.is("3: last rank", x.at(999), 128);
-        due.is("3: behind the last rank", x.at(1000), PrefixBook.NONE);
     }
 
     private static void promise4Remove() {
