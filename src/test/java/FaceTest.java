@@ -80,9 +80,12 @@ public final class FaceTest {
         String source = Files.readString(SOURCE)
                 .replaceAll("(?s)/\\*.*?\\*/", " ").replaceAll("//[^\n]*", " ");
         for (String word : new String[] {"throw", "throws", "try", "catch", "finally", "synchronized", "assert",
-                "import", "package"}) {
+                "import", "package", "native", "volatile", "System", "Thread", "Random", "hashCode", "toString"}) {
             boolean found = Pattern.compile("\\b" + word + "\\b").matcher(source).find();
             due.is("source has the word " + word, found, false);
+        }
+        for (String sign : new String[] {"->", "::", "Exact("}) {
+            due.is("source has the sign " + sign, source.contains(sign), false);
         }
     }
 }

@@ -13,10 +13,12 @@ public final class ModelTest {
     private static final int GREATEST = Integer.MAX_VALUE;
     private static final int[] LENGTHS = {-1, 0, 1, 2, 31, 32, 33, 63, 64, 65, 66, 127, 128, 129, LEAST, GREATEST};
     private static final int[] NUMBERS = {LEAST, LEAST + 1, -1, 0, 1, GREATEST};
+    private static final long[] HALVES = {-1L, Long.MIN_VALUE, Long.MAX_VALUE, 0xFFFFFFFFL, 1L << 32};
     private static final int[] OTHERS = {-1, 3, 4, 6, 256, LEAST, GREATEST};
 
     // A letter is a call: a(d)dress, (p)ut, (r)emove, (n)umber, (l)ongest, (c)overing, a(h)ead, (a)t, (s)ize, (t)old.
-    private static final String[] KINDS = {"dddppprnnlchast", "ddddpppppppplcha", "ddprrraaaannlchst", "pppprrrnlchastttd"};
+    private static final String[] KINDS = {
+        "dddppprnnlchast", "ddddpppppppplcha", "ddprrraaaannlchst", "pppprrrnlchastttd"};
     // Each way in which the document lets a call end; a run that met none of them would hold nothing against it.
     private static final String[] WAYS = {"address taken", "address refused", "put new", "put there", "put refused",
         "remove there", "remove not there", "remove refused", "number there", "number not there", "number none",
@@ -126,6 +128,9 @@ public final class ModelTest {
 
     /** Few bits are set, near the halves' ends, so that addresses meet again. */
     private long pickHalf() {
+        if (pick(8) == 0) {
+            return HALVES[pick(HALVES.length)];
+        }
         int[] shifts = {0, 1, 31, 32, 62, 63};
         long value = 0;
         for (int i = pick(4); i > 0; i--) {
@@ -143,7 +148,7 @@ public final class ModelTest {
         }
         int asked = pick(10) == 0 ? pick(10) : 4 + 2 * pick(2);
         long upper = asked == 4 && pick(8) != 0 ? 0 : pickHalf();
-        long lower = asked == 4 && pick(8) != 0 ? pickHalf() >>> 32 : pickHalf();
+        long lower = asked == 4 && pick(4) != 0 ? pickHalf() >>> 32 : pickHalf();
         tell(asked, upper, lower);
     }
 
